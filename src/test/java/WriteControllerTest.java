@@ -7,6 +7,7 @@ public final class WriteControllerTest {
         for (int c = 0; c < 2; c++) {
             lengthsOfSettingUp(c);
             settingUpClears(c);
+            settingUpClearsAutoAndTurns(c);
             settingUpIsBegunAgain(c);
             notReadyTakesNoCommand(c);
             mask(c);
@@ -15,6 +16,7 @@ public final class WriteControllerTest {
             special(c);
             whatIsRead(c);
         }
+        settingUpClearsNested();
         CHECKS.end();
     }
 
@@ -88,6 +90,33 @@ public final class WriteControllerTest {
         CHECKS.same("SPECIAL is off, so 5 holds", x.chosen(c), TickLines.NONE);
     }
 
+    private static void settingUpClearsAutoAndTurns(int c) {
+        TickLines x = new TickLines();
+        Setups.setUp(x, c, 8, 2);
+        x.write(2 * c, 0x80);
+        Setups.setUp(x, c, 8, 2);
+        Setups.on(x, c, 3);
+        x.write(2 * c, 12);
+        CHECKS.same("poll", x.read(2 * c), 128 + 3);
+        CHECKS.same("AUTO by the fourth byte", x.about(c, Setups.SERVICE), 0);
+        CHECKS.same("it turns no more", x.about(c, Setups.LOWEST), 7);
+        Setups.setUp(x, c, 8, -1);
+        Setups.on(x, c, 5);
+        x.write(2 * c, 12);
+        CHECKS.same("poll", x.read(2 * c), 128 + 5);
+        CHECKS.same("not AUTO without a fourth byte", x.about(c, Setups.SERVICE), 32);
+    }
+
+    private static void settingUpClearsNested() {
+        TickLines x = Setups.both();
+        Setups.setUp(x, 0, 32, 0x10);
+        Setups.setUp(x, 0, 32, -1);
+        Setups.on(x, 1, 5);
+        CHECKS.same("vector", x.acknowledge(), 45);
+        Setups.on(x, 1, 3);
+        CHECKS.same("not NESTED without a fourth byte", x.chosen(0), TickLines.NONE);
+    }
+
     private static void settingUpIsBegunAgain(int c) {
         TickLines x = new TickLines();
         x.write(2 * c, 17);
@@ -159,6 +188,9 @@ public final class WriteControllerTest {
         x.write(2 * c, 0xC3);
         x.write(2 * c, 0x20);
         CHECKS.same("1 goes by the priority that was turned", x.about(c, Setups.SERVICE), 0x48);
+        x.write(2 * c, 0x20);
+        x.write(2 * c, 0x20);
+        CHECKS.same("1 ends LOWEST as well", x.about(c, Setups.SERVICE), 0);
     }
 
     private static void turning(int c) {

@@ -59,8 +59,9 @@ public final class WriteCounterTest {
 
     private static void newModeClears(int k) {
         TickLines x = Setups.counting(k, 2, 300);
-        x.tick(2);
+        x.tick(1);
         x.write(7, 0xC0 | 2 << k);
+        x.tick(1);
         x.write(4 + k, 5);
         Setups.trigger(x, k);
         Setups.mode(x, k, 0);
