@@ -1,6 +1,27 @@
 /** Counts and prints the answers that are not as due. */
 final class Checks {
     private int wrong = 0;
+    private String words = "";
+
+    /** The document's words that the checks from here on are about; each wrong answer tells them. */
+    void words(String quoted) {
+        words = quoted;
+    }
+
+    /** Something that must not throw, whatever else it does. */
+    void quiet(String what, Runnable call) {
+        try {
+            call.run();
+        } catch (RuntimeException e) {
+            fail(what + " threw " + e + ", due is nothing");
+        }
+    }
+
+    void text(String what, String got, String due) {
+        if (!got.equals(due)) {
+            fail(what + " answered " + got + ", due is " + due);
+        }
+    }
 
     void same(String what, long got, long due) {
         if (got != due) {
@@ -41,7 +62,7 @@ final class Checks {
 
     private void fail(String text) {
         wrong++;
-        System.out.println(text);
+        System.out.println(words.isEmpty() ? text : "\"" + words + "\": " + text);
     }
 
     void end() {

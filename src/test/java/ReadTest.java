@@ -178,30 +178,26 @@ public final class ReadTest {
         pendingWhileItRuns(k);
     }
 
-    private static boolean pending(TickLines x, int k) {
-        return (Setups.status(x, k) & 64) != 0;
-    }
-
     private static void pendingByLoad(int k) {
         for (int m = 0; m < 6; m++) {
             TickLines x = Setups.counting(k, m, 5);
-            CHECKS.yes("64 before the load, mode " + m, pending(x, k));
+            CHECKS.yes("64 before the load, mode " + m, Setups.pending(x, k));
             x.tick(1);
             if (m == 1 || m == 5) {
-                CHECKS.yes("64 before the gate comes on, mode " + m, pending(x, k));
+                CHECKS.yes("64 before the gate comes on, mode " + m, Setups.pending(x, k));
                 Setups.trigger(x, k);
-                CHECKS.yes("64 before the tick, mode " + m, pending(x, k));
+                CHECKS.yes("64 before the tick, mode " + m, Setups.pending(x, k));
                 x.tick(1);
             }
-            CHECKS.no("64 behind the load, mode " + m, pending(x, k));
+            CHECKS.no("64 behind the load, mode " + m, Setups.pending(x, k));
             x.tick(1);
-            CHECKS.no("64 behind the next tick, mode " + m, pending(x, k));
+            CHECKS.no("64 behind the next tick, mode " + m, Setups.pending(x, k));
             x.write(4 + k, 4);
-            CHECKS.no("64 with one byte of two, mode " + m, pending(x, k));
+            CHECKS.no("64 with one byte of two, mode " + m, Setups.pending(x, k));
             x.write(4 + k, 0);
-            CHECKS.yes("64 with both, mode " + m, pending(x, k));
+            CHECKS.yes("64 with both, mode " + m, Setups.pending(x, k));
             Setups.mode(x, k, m);
-            CHECKS.yes("64 with the mode, mode " + m, pending(x, k));
+            CHECKS.yes("64 with the mode, mode " + m, Setups.pending(x, k));
         }
     }
 
@@ -210,24 +206,24 @@ public final class ReadTest {
         x.tick(1);
         Setups.reload(x, k, 9);
         x.tick(2);
-        CHECKS.yes("mode 2 at its 1", pending(x, k));
+        CHECKS.yes("mode 2 at its 1", Setups.pending(x, k));
         x.tick(1);
-        CHECKS.no("mode 2 behind it", pending(x, k));
+        CHECKS.no("mode 2 behind it", Setups.pending(x, k));
 
         x = Setups.counting(k, 3, 4);
         x.tick(1);
         Setups.reload(x, k, 8);
         x.tick(1);
-        CHECKS.yes("mode 3 before the next part", pending(x, k));
+        CHECKS.yes("mode 3 before the next part", Setups.pending(x, k));
         x.tick(1);
-        CHECKS.no("mode 3 in the next part", pending(x, k));
+        CHECKS.no("mode 3 in the next part", Setups.pending(x, k));
 
         x = Setups.counting(k, 1, 9);
         Setups.trigger(x, k);
         x.tick(1);
         Setups.reload(x, k, 2);
         x.tick(20);
-        CHECKS.yes("mode 1 without a gate", pending(x, k));
+        CHECKS.yes("mode 1 without a gate", Setups.pending(x, k));
     }
 
     private static void latchBetweenTheBytes(int k) {

@@ -45,6 +45,71 @@ final class Setups {
         }
     }
 
+    /** Both controllers ready and in AUTO mode, so that what is served holds nothing back. */
+    static TickLines bothAuto() {
+        TickLines x = new TickLines();
+        setUp(x, 0, 32, 2);
+        setUp(x, 1, 40, 2);
+        return x;
+    }
+
+    static void raise(TickLines x, int controller, int level) {
+        set(x, controller, level, true);
+    }
+
+    static void lower(TickLines x, int controller, int level) {
+        set(x, controller, level, false);
+    }
+
+    /** Sets any line, also those of controller 0 that only counter 0 and controller 1 can. */
+    private static void set(TickLines x, int controller, int level, boolean on) {
+        if (controller == 0 && level == 0) {
+            mode(x, 0, on ? 2 : 0);
+        } else if (controller == 0 && level == 2) {
+            x.line(1, 7, on);
+        } else {
+            x.line(controller, level, on);
+        }
+    }
+
+    /** All eight levels of a controller in service, one within the other; its lines are off. */
+    static TickLines fullService(int controller) {
+        TickLines x = both();
+        for (int level = 7; level >= 0; level--) {
+            raise(x, controller, level);
+            poll(x, controller);
+            lower(x, controller, level);
+        }
+        return x;
+    }
+
+    static void raiseAll(TickLines x, int controller) {
+        for (int level = 0; level < 8; level++) {
+            raise(x, controller, level);
+        }
+    }
+
+    static int poll(TickLines x, int controller) {
+        x.write(2 * controller, 12);
+        return x.read(2 * controller);
+    }
+
+    /** All that about and counter tell (37 calls). */
+    static String state(TickLines x) {
+        StringBuilder text = new StringBuilder();
+        for (int c = 0; c < 2; c++) {
+            for (int what = 0; what < 8; what++) {
+                text.append(x.about(c, what)).append(' ');
+            }
+        }
+        for (int k = 0; k < 3; k++) {
+            for (int what = 0; what < 7; what++) {
+                text.append(x.counter(k, what)).append(' ');
+            }
+        }
+        return text.toString();
+    }
+
     /** Gives a counter the mode with both bytes as its access. */
     static void mode(TickLines x, int counter, int mode) {
         x.write(7, counter << 6 | 3 << 4 | mode << 1);
@@ -71,6 +136,11 @@ final class Setups {
     static int status(TickLines x, int counter) {
         x.write(7, 0xE0 | 2 << counter);
         return x.read(4 + counter);
+    }
+
+    /** Whether the STATUS of a counter has its 64. */
+    static boolean pending(TickLines x, int counter) {
+        return (status(x, counter) & 64) != 0;
     }
 
     /** The outputs behind each of n single ticks, as a text of 0 and 1. */

@@ -30,91 +30,87 @@ public final class TickTest {
         CHECKS.same("100 ticks", x.counter(0, Setups.COUNT), 9);
     }
 
-    private static void shown(String what, String got, String due) {
-        CHECKS.yes(what + " answered " + got + ", due is " + due + ": this", got.equals(due));
-    }
-
     private static void modeZero(int k) {
-        shown("0 counts", Setups.counts(Setups.counting(k, 0, 3), k, 6), "3 2 1 0 65535 65534");
-        shown("0 outputs", Setups.outputs(Setups.counting(k, 0, 3), k, 6), "000111");
-        shown("0 with 1", Setups.outputs(Setups.counting(k, 0, 1), k, 4), "0111");
+        CHECKS.text("0 counts", Setups.counts(Setups.counting(k, 0, 3), k, 6), "3 2 1 0 65535 65534");
+        CHECKS.text("0 outputs", Setups.outputs(Setups.counting(k, 0, 3), k, 6), "000111");
+        CHECKS.text("0 with 1", Setups.outputs(Setups.counting(k, 0, 1), k, 4), "0111");
     }
 
     private static void modeOne(int k) {
         TickLines x = Setups.counting(k, 1, 3);
-        shown("1 before the gate", Setups.outputs(x, k, 3), "111");
+        CHECKS.text("1 before the gate", Setups.outputs(x, k, 3), "111");
         Setups.trigger(x, k);
-        shown("1 outputs", Setups.outputs(x, k, 6), "000111");
+        CHECKS.text("1 outputs", Setups.outputs(x, k, 6), "000111");
         Setups.trigger(x, k);
-        shown("1 counts", Setups.counts(x, k, 5), "3 2 1 0 65535");
+        CHECKS.text("1 counts", Setups.counts(x, k, 5), "3 2 1 0 65535");
         Setups.trigger(x, k);
-        shown("1 begins", Setups.outputs(x, k, 2), "00");
+        CHECKS.text("1 begins", Setups.outputs(x, k, 2), "00");
         Setups.trigger(x, k);
-        shown("1 is begun again", Setups.outputs(x, k, 5), "00011");
+        CHECKS.text("1 is begun again", Setups.outputs(x, k, 5), "00011");
     }
 
     private static void modeTwo(int k) {
-        shown("2 counts", Setups.counts(Setups.counting(k, 2, 3), k, 8), "3 2 1 3 2 1 3 2");
-        shown("2 outputs", Setups.outputs(Setups.counting(k, 2, 3), k, 8), "11011011");
-        shown("2 with 2", Setups.outputs(Setups.counting(k, 2, 2), k, 6), "101010");
-        shown("2 with 1", Setups.outputs(Setups.counting(k, 2, 1), k, 4), "1000");
-        shown("2 with 1, counts", Setups.counts(Setups.counting(k, 2, 1), k, 3), "1 1 1");
+        CHECKS.text("2 counts", Setups.counts(Setups.counting(k, 2, 3), k, 8), "3 2 1 3 2 1 3 2");
+        CHECKS.text("2 outputs", Setups.outputs(Setups.counting(k, 2, 3), k, 8), "11011011");
+        CHECKS.text("2 with 2", Setups.outputs(Setups.counting(k, 2, 2), k, 6), "101010");
+        CHECKS.text("2 with 1", Setups.outputs(Setups.counting(k, 2, 1), k, 4), "1000");
+        CHECKS.text("2 with 1, counts", Setups.counts(Setups.counting(k, 2, 1), k, 3), "1 1 1");
         TickLines x = Setups.counting(k, 2, 3);
         x.tick(3);
         Setups.trigger(x, k);
-        shown("2 is begun again", Setups.outputs(x, k, 5), "11011");
+        CHECKS.text("2 is begun again", Setups.outputs(x, k, 5), "11011");
     }
 
     private static void modeThree(int k) {
-        shown("3 counts", Setups.counts(Setups.counting(k, 3, 4), k, 6), "4 2 4 2 4 2");
-        shown("3 outputs", Setups.outputs(Setups.counting(k, 3, 4), k, 9), "110011001");
-        shown("3 with 5", Setups.counts(Setups.counting(k, 3, 5), k, 7), "6 4 2 4 2 6 4");
-        shown("3 with 5, outputs", Setups.outputs(Setups.counting(k, 3, 5), k, 11), "11100111001");
-        shown("3 with 2", Setups.outputs(Setups.counting(k, 3, 2), k, 5), "10101");
-        shown("3 with 1", Setups.outputs(Setups.counting(k, 3, 1), k, 5), "11111");
-        shown("3 with 1, counts", Setups.counts(Setups.counting(k, 3, 1), k, 3), "2 2 2");
+        CHECKS.text("3 counts", Setups.counts(Setups.counting(k, 3, 4), k, 6), "4 2 4 2 4 2");
+        CHECKS.text("3 outputs", Setups.outputs(Setups.counting(k, 3, 4), k, 9), "110011001");
+        CHECKS.text("3 with 5", Setups.counts(Setups.counting(k, 3, 5), k, 7), "6 4 2 4 2 6 4");
+        CHECKS.text("3 with 5, outputs", Setups.outputs(Setups.counting(k, 3, 5), k, 11), "11100111001");
+        CHECKS.text("3 with 2", Setups.outputs(Setups.counting(k, 3, 2), k, 5), "10101");
+        CHECKS.text("3 with 1", Setups.outputs(Setups.counting(k, 3, 1), k, 5), "11111");
+        CHECKS.text("3 with 1, counts", Setups.counts(Setups.counting(k, 3, 1), k, 3), "2 2 2");
         TickLines x = Setups.counting(k, 3, 4);
         x.tick(4);
         Setups.trigger(x, k);
-        shown("3 is begun again", Setups.outputs(x, k, 5), "11001");
+        CHECKS.text("3 is begun again", Setups.outputs(x, k, 5), "11001");
     }
 
     private static void modeThreeChangesItsReload(int k) {
         TickLines x = Setups.counting(k, 3, 4);
         x.tick(3);
         Setups.reload(x, k, 1);
-        shown("3 goes to 1 in its off part", Setups.outputs(x, k, 5), "01111");
+        CHECKS.text("3 goes to 1 in its off part", Setups.outputs(x, k, 5), "01111");
         Setups.reload(x, k, 4);
-        shown("3 goes to 4 again", Setups.outputs(x, k, 5), "00110");
+        CHECKS.text("3 goes to 4 again", Setups.outputs(x, k, 5), "00110");
     }
 
     private static void modesFourAndFive(int k) {
         TickLines x = Setups.counting(k, 4, 2);
-        shown("4 outputs", Setups.outputs(x, k, 6), "110111");
-        shown("4 counts", Setups.counts(Setups.counting(k, 4, 2), k, 5), "2 1 0 65535 65534");
+        CHECKS.text("4 outputs", Setups.outputs(x, k, 6), "110111");
+        CHECKS.text("4 counts", Setups.counts(Setups.counting(k, 4, 2), k, 5), "2 1 0 65535 65534");
         x = Setups.counting(k, 5, 2);
-        shown("5 before the gate", Setups.outputs(x, k, 3), "111");
+        CHECKS.text("5 before the gate", Setups.outputs(x, k, 3), "111");
         Setups.trigger(x, k);
-        shown("5 outputs", Setups.outputs(x, k, 5), "11011");
+        CHECKS.text("5 outputs", Setups.outputs(x, k, 5), "11011");
         Setups.trigger(x, k);
-        shown("5 once more", Setups.outputs(x, k, 3), "110");
+        CHECKS.text("5 once more", Setups.outputs(x, k, 3), "110");
         Setups.trigger(x, k);
-        shown("5 stays off with the load", Setups.outputs(x, k, 4), "0101");
+        CHECKS.text("5 stays off with the load", Setups.outputs(x, k, 4), "0101");
     }
 
     private static void largest(int k) {
-        shown("0", Setups.counts(Setups.counting(k, 0, 0), k, 3), "0 65535 65534");
-        shown("0, outputs", Setups.outputs(Setups.counting(k, 0, 0), k, 3), "000");
-        shown("2", Setups.counts(Setups.counting(k, 2, 0), k, 3), "0 65535 65534");
-        shown("2, outputs", Setups.outputs(Setups.counting(k, 2, 0), k, 3), "111");
-        shown("3", Setups.counts(Setups.counting(k, 3, 0), k, 3), "0 65534 65532");
-        shown("3 with 65535", Setups.counts(Setups.counting(k, 3, 65535), k, 3), "0 65534 65532");
-        shown("3 with 65534", Setups.counts(Setups.counting(k, 3, 65534), k, 3), "65534 65532 65530");
-        shown("3, outputs", Setups.outputs(Setups.counting(k, 3, 0), k, 3), "111");
-        shown("4", Setups.outputs(Setups.counting(k, 4, 0), k, 3), "111");
+        CHECKS.text("0", Setups.counts(Setups.counting(k, 0, 0), k, 3), "0 65535 65534");
+        CHECKS.text("0, outputs", Setups.outputs(Setups.counting(k, 0, 0), k, 3), "000");
+        CHECKS.text("2", Setups.counts(Setups.counting(k, 2, 0), k, 3), "0 65535 65534");
+        CHECKS.text("2, outputs", Setups.outputs(Setups.counting(k, 2, 0), k, 3), "111");
+        CHECKS.text("3", Setups.counts(Setups.counting(k, 3, 0), k, 3), "0 65534 65532");
+        CHECKS.text("3 with 65535", Setups.counts(Setups.counting(k, 3, 65535), k, 3), "0 65534 65532");
+        CHECKS.text("3 with 65534", Setups.counts(Setups.counting(k, 3, 65534), k, 3), "65534 65532 65530");
+        CHECKS.text("3, outputs", Setups.outputs(Setups.counting(k, 3, 0), k, 3), "111");
+        CHECKS.text("4", Setups.outputs(Setups.counting(k, 4, 0), k, 3), "111");
         TickLines x = Setups.counting(k, 1, 0);
         Setups.trigger(x, k);
-        shown("1", Setups.outputs(x, k, 3), "000");
+        CHECKS.text("1", Setups.outputs(x, k, 3), "000");
     }
 
     private static void periods() {

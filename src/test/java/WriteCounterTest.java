@@ -134,22 +134,22 @@ public final class WriteCounterTest {
         TickLines x = Setups.counting(k, 2, 3);
         x.tick(1);
         Setups.reload(x, k, 5);
-        CHECKS.yes("mode 2", Setups.counts(x, k, 5).equals("2 1 5 4 3"));
+        CHECKS.text("mode 2", Setups.counts(x, k, 5), "2 1 5 4 3");
         x = Setups.counting(k, 3, 4);
         x.tick(1);
         Setups.reload(x, k, 7);
-        CHECKS.yes("mode 3", Setups.counts(x, k, 6).equals("2 6 4 2 8 6"));
+        CHECKS.text("mode 3", Setups.counts(x, k, 6), "2 6 4 2 8 6");
         x = Setups.counting(k, 4, 5);
         x.tick(2);
         Setups.reload(x, k, 8);
-        CHECKS.yes("mode 4", Setups.counts(x, k, 2).equals("8 7"));
+        CHECKS.text("mode 4", Setups.counts(x, k, 2), "8 7");
         x = Setups.counting(k, 1, 5);
         Setups.trigger(x, k);
         x.tick(2);
         Setups.reload(x, k, 8);
-        CHECKS.yes("mode 1", Setups.counts(x, k, 2).equals("3 2"));
+        CHECKS.text("mode 1", Setups.counts(x, k, 2), "3 2");
         Setups.trigger(x, k);
-        CHECKS.yes("mode 1 again", Setups.counts(x, k, 2).equals("8 7"));
+        CHECKS.text("mode 1 again", Setups.counts(x, k, 2), "8 7");
     }
 
     private static void controlWithoutMode() {
