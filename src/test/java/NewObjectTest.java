@@ -1,10 +1,4 @@
-import java.lang.reflect.Constructor;
-import java.lang.reflect.Method;
-import java.lang.reflect.Modifier;
-import java.util.Arrays;
-import java.util.TreeSet;
-
-/** Promise 1, and the face of the class. */
+/** Promise 1. */
 public final class NewObjectTest {
     private static final Checks CHECKS = new Checks();
 
@@ -12,7 +6,6 @@ public final class NewObjectTest {
         controllers();
         counters();
         objectsShareNothing();
-        face();
         CHECKS.end();
     }
 
@@ -47,22 +40,5 @@ public final class NewObjectTest {
         TickLines other = new TickLines();
         CHECKS.same("ready of another object", other.about(0, Setups.READY), 0);
         CHECKS.same("mode of another object", other.counter(0, Setups.MODE), TickLines.NONE);
-    }
-
-    private static void face() {
-        CHECKS.same("NONE", TickLines.NONE, -1);
-        CHECKS.yes("the class is final", Modifier.isFinal(TickLines.class.getModifiers()));
-        TreeSet<String> names = new TreeSet<>();
-        for (Method m : TickLines.class.getDeclaredMethods()) {
-            if (!Modifier.isPrivate(m.getModifiers())) {
-                CHECKS.yes(m + " is public", Modifier.isPublic(m.getModifiers()));
-                names.add(m.getName());
-            }
-        }
-        CHECKS.yes("the face is the document's: " + names, names.equals(new TreeSet<>(Arrays.asList(
-                "write", "read", "line", "gate", "tick", "acknowledge", "chosen", "about", "counter"))));
-        Constructor<?>[] made = TickLines.class.getConstructors();
-        CHECKS.same("public constructors", made.length, 1);
-        CHECKS.same("parameters of the constructor", made[0].getParameterCount(), 0);
     }
 }
